@@ -15,6 +15,7 @@ final class ActionTest {
         hours();
         undo();
         undoOfEachAction();
+        undoOfManyActions();
         Check.end();
     }
 
@@ -103,7 +104,10 @@ final class ActionTest {
         Check.notNow("take() on a road", () -> x.take(0, 4));
         Check.notNow("take() of what is on a road", () -> x.take(1, 0));
         Check.notNow("take() of it where it goes to", () -> x.take(2, 0));
-        x.hours(2);
+        x.hours(1);
+        Check.notNow("take() with an hour left", () -> x.take(0, 4));
+        Check.notNow("take() of what has an hour left", () -> x.take(2, 0));
+        x.hours(1);
         Check.notNow("take() from another town", () -> x.take(1, 0));
         Check.due("take() where it came to", 1, () -> x.take(2, 0));
         Check.due("carried by 0", 10, () -> x.runnerOf(0, 2));
@@ -137,7 +141,9 @@ final class ActionTest {
         Check.due("go(0, 0)", 1, () -> x.go(0, 0));
         Check.notNow("go() on a road", () -> x.go(0, 0));
         Check.notNow("go() before the town is reached", () -> x.go(0, 1));
-        Check.due("hours(2)", 1, () -> x.hours(2));
+        Check.due("hours(1)", 0, () -> x.hours(1));
+        Check.notNow("go() with an hour left", () -> x.go(0, 1));
+        Check.due("hours(1)", 1, () -> x.hours(1));
         Check.due("go(0, 1)", 2, () -> x.go(0, 1));
         x.hours(3);
         Check.notNow("go() on a road of other towns", () -> x.go(0, 0));
@@ -376,6 +382,29 @@ final class ActionTest {
         undone(x, faded, "refused proof", () -> x.proof(0, 1, 2, 1));
         Check.due("undo()", 0, x::undo);
         Check.isTrue("all as before", before.equals(Looks.all(x)));
+    }
+
+    /** Each action on top of the one before, and then all of them back. */
+    private static void undoOfManyActions() {
+        FadingSheets x = new FadingSheets();
+        x.town();
+        Check.Call[] actions = {
+            x::town, () -> x.road(0, 1, 2), () -> x.runner(0), () -> x.write(0, 123456, 9), () -> x.copy(0, 9),
+            () -> x.copy(1, 8), () -> x.take(0, 1), () -> x.hours(7), () -> x.proof(0, 1, 2, 1), () -> x.go(0, 0),
+            () -> x.copy(1, 1), () -> x.hours(1), () -> x.hours(1), () -> x.lay(1),
+        };
+        String[] before = new String[actions.length];
+        for (int i = 0; i < actions.length; i++) {
+            before[i] = Looks.all(x);
+            actions[i].answer();
+        }
+        for (int i = actions.length - 1; i >= 0; i--) {
+            int rest = i;
+            Check.due("undo() of the action " + i, rest, x::undo);
+            Check.isTrue("all as before the action " + i, before[i].equals(Looks.all(x)));
+        }
+        Check.notNow("undo() of the first one", x::undo);
+        Check.due("towns", 1, () -> x.about(0));
     }
 
     private static void undone(FadingSheets x, String before, String action, Check.Call call) {
