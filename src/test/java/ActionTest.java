@@ -14,8 +14,6 @@ final class ActionTest {
         proofReasonsInOrder();
         hours();
         undo();
-        undoOfEachAction();
-        undoOfManyActions();
         Check.end();
     }
 
@@ -360,57 +358,5 @@ final class ActionTest {
         Check.due("time", 14, () -> x.about(5));
         Check.due("undo()", 3, x::undo);
         Check.due("time", 12, () -> x.about(5));
-    }
-
-    private static void undoOfEachAction() {
-        FadingSheets x = Texts.loaded("Fttr0103u0u0w01234569c003c002k003h05k000");
-        String before = Looks.all(x);
-        undone(x, before, "town", x::town);
-        undone(x, before, "road", () -> x.road(1, 0, 9));
-        undone(x, before, "runner", () -> x.runner(1));
-        undone(x, before, "write", () -> x.write(1, 5, 5));
-        undone(x, before, "take", () -> x.take(1, 1));
-        undone(x, before, "take from another one", () -> x.take(1, 0));
-        undone(x, before, "lay", () -> x.lay(0));
-        undone(x, before, "go", () -> x.go(0, 0));
-        undone(x, before, "copy", () -> x.copy(1, 1));
-        undone(x, before, "proof", () -> x.proof(0, 1, 2, 0));
-        undone(x, before, "hours", () -> x.hours(40));
-        x.hours(40);
-        String faded = Looks.all(x);
-        undone(x, faded, "refused copy", () -> x.copy(0, 1));
-        undone(x, faded, "refused proof", () -> x.proof(0, 1, 2, 1));
-        Check.due("undo()", 0, x::undo);
-        Check.isTrue("all as before", before.equals(Looks.all(x)));
-    }
-
-    /** Each action on top of the one before, and then all of them back. */
-    private static void undoOfManyActions() {
-        FadingSheets x = new FadingSheets();
-        x.town();
-        Check.Call[] actions = {
-            x::town, () -> x.road(0, 1, 2), () -> x.runner(0), () -> x.write(0, 123456, 9), () -> x.copy(0, 9),
-            () -> x.copy(1, 8), () -> x.take(0, 1), () -> x.hours(7), () -> x.proof(0, 1, 2, 1), () -> x.go(0, 0),
-            () -> x.copy(1, 1), () -> x.hours(1), () -> x.hours(1), () -> x.lay(1),
-        };
-        String[] before = new String[actions.length];
-        for (int i = 0; i < actions.length; i++) {
-            before[i] = Looks.all(x);
-            actions[i].answer();
-        }
-        for (int i = actions.length - 1; i >= 0; i--) {
-            int rest = i;
-            Check.due("undo() of the action " + i, rest, x::undo);
-            Check.isTrue("all as before the action " + i, before[i].equals(Looks.all(x)));
-        }
-        Check.notNow("undo() of the first one", x::undo);
-        Check.due("towns", 1, () -> x.about(0));
-    }
-
-    private static void undone(FadingSheets x, String before, String action, Check.Call call) {
-        call.answer();
-        Check.isTrue(action + " changes something", !before.equals(Looks.all(x)));
-        Check.isTrue(action + " is remembered", x.undo() >= 0);
-        Check.isTrue(action + " is taken back", before.equals(Looks.all(x)));
     }
 }

@@ -46,6 +46,12 @@ final class Check {
         fails(call, IllegalStateException.class, made);
     }
 
+    static void same(String what, String want, String got) {
+        if (!got.equals(want)) {
+            tell(what, got, want);
+        }
+    }
+
     static void isTrue(String what, boolean holds) {
         if (!holds) {
             tell(what, "false", "true");

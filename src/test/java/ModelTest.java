@@ -3,12 +3,14 @@ import java.util.Random;
 /** Runs of 512 calls, drawn from fixed seeds, on the class and on the plain model: they must answer alike. */
 final class ModelTest {
     private static final int RUNS = 400;
+    /** What later calls answer is free. */
     private static final int CALLS = 512;
 
     private final Random random;
     private final FadingSheets x = new FadingSheets();
     private final PlainModel model = new PlainModel();
     private final StringBuilder calls = new StringBuilder();
+    private int made;
 
     private ModelTest(long seed) {
         random = new Random(seed);
@@ -26,7 +28,7 @@ final class ModelTest {
     private boolean isAlike() {
         // loads and restores throw so much away that many of them would keep all runs small
         int rare = random.nextInt(4) == 0 ? 10 : 2;
-        for (int i = 0; i < CALLS; i++) {
+        while (made < CALLS) {
             if (!(random.nextInt(100) < rare ? rareCall() : random.nextInt(2) == 0 ? action() : question())) {
                 System.out.println(calls);
                 return false;
@@ -36,6 +38,10 @@ final class ModelTest {
     }
 
     private boolean due(String call, Check.Call ours, Check.Call models) {
+        if (made == CALLS) {
+            return true;
+        }
+        made++;
         String got = answer(ours);
         String want = answer(models);
         calls.append(call).append(" = ").append(want).append('\n');
@@ -73,19 +79,19 @@ final class ModelTest {
     }
 
     private int towns() {
-        return pick(x.about(0));
+        return pick(model.about(0));
     }
 
     private int sheets() {
-        return pick(x.about(4));
+        return pick(model.about(4));
     }
 
     private int runners() {
-        return pick(x.about(2));
+        return pick(model.about(2));
     }
 
     private int roads() {
-        return pick(x.about(1));
+        return pick(model.about(1));
     }
 
     private boolean rareCall() {
@@ -212,7 +218,7 @@ final class ModelTest {
             case 11, 12:
                 return due("ifBrought " + s + " " + a, () -> x.ifBrought(s, a), () -> model.ifBrought(s, a));
             case 13:
-                int m = pick(x.about(3));
+                int m = pick(model.about(3));
                 return due("best " + m, () -> x.best(m), () -> model.best(m))
                         && due("message " + m, () -> x.message(m), () -> model.message(m));
             case 14:
@@ -249,10 +255,10 @@ final class ModelTest {
     }
 
     private long group() {
-        int s = random.nextInt(x.about(4) + 1);
-        int r = random.nextInt(x.about(2) + 1);
-        int t = random.nextInt(x.about(0) + 1);
-        int w = random.nextInt(x.about(1) + 1);
+        int s = random.nextInt(model.about(4) + 1);
+        int r = random.nextInt(model.about(2) + 1);
+        int t = random.nextInt(model.about(0) + 1);
+        int w = random.nextInt(model.about(1) + 1);
         int small = random.nextInt(10);
         int any = random.nextInt(100);
         int[] groups = {
