@@ -238,7 +238,7 @@ final class EdgeActionTest {
         run.due("proof(3, 1, 2, 0)", 0).noSuch("proof(5, 1, 2, 0)");
     }
 
-    /** Promise 19: "IllegalArgumentException if two of them are the same, they are not all of one message, or fade..." */
+    /** Promise 19: "IllegalArgumentException if two of them are the same, they are not all of one message..." */
     private static void proofOutOfRange() {
         Run run = Run.loaded("Ftu0w00000000c000c000w00000000");
         run.outOfRange("proof(0, 0, 1, 0)", "proof(0, 1, 0, 0)", "proof(1, 0, 0, 0)", "proof(2, 2, 2, 0)");

@@ -1,4 +1,4 @@
-/** The bounds of promises 22 to 28: what would be, which changes nothing (each row of a Run checks that it does not). */
+/** The bounds of promises 22 to 28: what would be (each row of a Run checks that it changes nothing). */
 final class EdgeForecastTest {
     private static final String MIN = String.valueOf(Integer.MIN_VALUE);
     private static final String MAX = String.valueOf(Integer.MAX_VALUE);
@@ -292,7 +292,8 @@ final class EdgeForecastTest {
         back.due("ifBrought(0, 0)", 1).due("ifBrought(0, 1)", 0).due("ifBrought(0, 2)", 1);
         Run just = Run.loaded("Ftttr0120r0201u0w00000001h28k000g00h09").due("ifBrought(0, 0)", 1);
         just.due("ifBrought(0, 2)", 1);
-        Run early = Run.loaded("Ftttr0120r0201u0w00000001h19k000g00").due("ifBrought(0, 0)", 0).due("ifBrought(0, 2)", 1);
+        Run early = Run.loaded("Ftttr0120r0201u0w00000001h19k000g00").due("ifBrought(0, 0)", 0)
+                .due("ifBrought(0, 2)", 1);
         early.due("ifBrought(0, 1)", 0);
     }
 
@@ -326,6 +327,9 @@ final class EdgeForecastTest {
         run.due("best(0)", 3).does("hours(5)").due("best(0)", 3).does("hours(60)").due("best(0)", 3);
         Run first = Run.loaded("Ftu0w00000001c009h05").due("best(0)", 0).does("copy(0, 9)").due("best(0)", 2);
         first.does("hours(1)").due("best(0)", 0);
+        // what the errors are an hour later does not count
+        Run now = Run.loaded("Ftu0w00000001h53c009h06").due("sheetOf(0, 1)", 40).due("sheetOf(1, 1)", 45);
+        now.due("best(0)", 1).does("hours(1)").due("sheetOf(0, 1)", 39).due("sheetOf(1, 1)", 36).due("best(0)", 0);
     }
 
     /** Promise 28: "of several of those the lowest" */

@@ -74,7 +74,8 @@ final class EdgeLookTest {
         run.outOfRange("proof(0, 0, 0, 0)", "proof(0, 1, 2, 0)").due("why(0)", 3).due("runScript(1, 40000)", 0);
         run.due("about(8)", 2).does("runner(0)").due("copy(0, 0)", 0).due("copy(0, 0)", 0).due("about(8)", 2);
         run.due("proof(0, 3, 4, 0)", 0).due("about(8)", 2).does("town()");
-        run.does("road(0, 1, 1)", "go(0, 0)").due("proof(0, 3, 4, 0)", 3).due("about(8)", 3).due("proof(4, 0, 3, 0)", 3);
+        run.does("road(0, 1, 1)", "go(0, 0)").due("proof(0, 3, 4, 0)", 3).due("about(8)", 3)
+                .due("proof(4, 0, 3, 0)", 3);
         run.due("about(8)", 4).due("undo()", 10).due("about(8)", 3);
         Run often = Run.loaded("Ftw00000000");
         for (int i = 1; i <= 100; i++) {

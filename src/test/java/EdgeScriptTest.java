@@ -198,7 +198,9 @@ final class EdgeScriptTest {
         Run run = Run.loaded(COUNTRY);
         succeeds(run, 60000, 60009, 60100);
         fails(run, 60200, 60209, 61000, 61209, 69909);
-        run.does("hours(7)");
+        run.does("hours(6)");
+        succeeds(run, 60000);
+        run.does("hours(1)");
         fails(run, 60000);
         succeeds(run, 60001, 60002, 60100);
         run.does("hours(2)");
@@ -224,7 +226,7 @@ final class EdgeScriptTest {
         succeeds(run, 70000);
         fails(run, 70001);
         Run last = Run.withSheets(12);
-        succeeds(last, 71199, 71100);
+        succeeds(last, 71199, 71100, 70999);
         fails(last, 71200);
     }
 

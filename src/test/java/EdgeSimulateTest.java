@@ -82,7 +82,8 @@ final class EdgeSimulateTest {
 
     /** The first turn has the very number that is wanted, the others any number that stands for the same call. */
     private static long seedOf(int[]... turns) {
-        int q = (1 << 27) - 1;
+        // just a big one: the greatest q has a test of its own
+        int q = 123456789;
         while (q >= 0 && !isTurn(16 * q + turns[0][0], turns[0])) {
             q--;
         }
@@ -270,6 +271,8 @@ final class EdgeSimulateTest {
         row("Ft", wants(10000, 10000), turn(WRITE, 0, ANY, 0), turn(HOURS, 20));
         row("Ftttttt", wants(10000), turn(WRITE, 5, ANY, 1));
         row("Ft", wants(0), turn(WRITE, 1, ANY, ANY));
+        // q / 8 is 1000000, which is too much by itself
+        Run.loaded("Fttt").due("simulate(" + (((16L * 8000000 + WRITE << 33) - ADDEND) * inverse()) + ", 1)", 10000);
         row("Ft" + "w00000000".repeat(5), wants(60000), turn(WRITE, 0, ANY, ANY));
         row("Ft" + "w00000000".repeat(6), wants(60000), turn(WRITE, 0, ANY, ANY));
         row("Ftu0" + TEN_SHEETS + "c000", wants(120000), turn(WRITE, 0, ANY, ANY));
@@ -330,6 +333,10 @@ final class EdgeSimulateTest {
     /** "13: proof(q % 12, q / 16 % 12, q / 256 % 12, q % 10)." */
     private static void proofs() {
         String text = "Ftu0w00000000c000c000";
+        for (String three : new String[] {"012", "021", "102", "120", "201", "210"}) {
+            row(text, wants(40000), turn(PROOF, three.charAt(0) - '0', three.charAt(1) - '0', three.charAt(2) - '0',
+                    ANY));
+        }
         row(text, wants(40000, 40601), turn(PROOF, 1, 2, 0, 9), turn(HOURS, 11));
         row(text, wants(40000, 40000), turn(PROOF, 0, 1, 2, 0), turn(HOURS, 20));
         row(text, wants(30000), turn(PROOF, 0, 0, 1, ANY));
@@ -359,7 +366,7 @@ final class EdgeSimulateTest {
         }
     }
 
-    /** "Returns 10000 * (the sheets) + 100 * (the errors) + (the sheets that cannot be read)", the least and the most */
+    /** "Returns 10000 * (the sheets) + 100 * (the errors) + (the sheets that cannot be read)", least and most */
     private static void whatIsReturned() {
         row("", wants(0), turn(HOURS, 1));
         row("Ftu0w00000009" + "c009".repeat(11), wants(127212), turn(HOURS, 11));

@@ -14,6 +14,7 @@ final class EdgeSlotTest {
         restoreForgetsStates();
         restoreIsNoAction();
         theSlotKeepsIt();
+        whatIsNewBehindRestore();
         savedOver();
         theTextIsKept();
         refusedOnesAreSaved();
@@ -30,7 +31,8 @@ final class EdgeSlotTest {
 
     /** "IllegalStateException if nothing has been saved in it" */
     private static void nothingSaved() {
-        Run run = new Run().notNow("restore(0)", "restore(1)").does("save(1)").notNow("restore(0)").due("restore(1)", 0);
+        Run run = new Run().notNow("restore(0)", "restore(1)").does("save(1)").notNow("restore(0)")
+                .due("restore(1)", 0);
         run.does("hours(2)").notNow("restore(0)").due("save(0)", 2).due("restore(0)", 2).due("restore(1)", 0);
         Run.of("town()", "save(0)").notNow("restore(1)").due("undo()", 0);
     }
@@ -45,7 +47,8 @@ final class EdgeSlotTest {
 
     /** "Returns the time."; "Returns the time then." */
     private static void theTime() {
-        Run run = new Run().due("save(0)", 0).does("hours(60)").due("save(1)", 60).does("hours(1)").due("restore(1)", 60);
+        Run run = new Run().due("save(0)", 0).does("hours(60)").due("save(1)", 60).does("hours(1)")
+                .due("restore(1)", 60);
         run.due("about(5)", 60).due("restore(0)", 0).due("about(5)", 0).due("restore(1)", 60).due("about(5)", 60);
     }
 
@@ -63,7 +66,8 @@ final class EdgeSlotTest {
     private static void slotsAreApart() {
         Run run = Run.of("town()", "save(0)", "town()", "hours(5)", "save(1)", "town()").due("restore(0)", 0);
         run.due("about(0)", 1).due("restore(1)", 5).due("about(0)", 2).due("restore(0)", 0).due("about(0)", 1);
-        Run undone = Run.of("town()", "hours(4)", "save(0)", "undo()", "undo()").due("restore(0)", 4).due("about(0)", 1);
+        Run undone = Run.of("town()", "hours(4)", "save(0)", "undo()", "undo()").due("restore(0)", 4)
+                .due("about(0)", 1);
         undone.does("hours(1)", "undo()").due("restore(0)", 4);
     }
 
@@ -98,6 +102,16 @@ final class EdgeSlotTest {
         Check.same("restored again", Run.loaded(text).looks(), run.looks());
     }
 
+    /** "Replaces the state": what is added then has nothing of what was there under its number */
+    private static void whatIsNewBehindRestore() {
+        String[] more = {"road(0, 1, 20)", "runner(0)", "write(0, 123456, 9)", "take(0, 0)", "go(0, 0)", "hours(3)"};
+        String[] added = {"road(1, 0, 2)", "runner(1)", "write(1, 654321, 1)"};
+        String[] towns = {"town()", "town()"};
+        Run run = Run.of(towns).does("save(1)").does(more).due("restore(1)", 0).does(added);
+        Check.same("added behind restore()", Run.of(towns).does(added).looks(), run.looks());
+        run.due("runnerOf(0, 1)", 0).due("runnerOf(0, 3)", 0).due("sheetOf(0, 3)", -1).due("about(9)", 1);
+    }
+
     /** "Stores the present state in a save slot.": in the place of the one before */
     private static void savedOver() {
         Run run = Run.of("town()", "hours(5)", "write(0, 7, 7)", "save(0)").text("Fttt").does("load()", "hours(1)");
@@ -115,7 +129,8 @@ final class EdgeSlotTest {
 
     /** How often copy() and proof() were refused is in the state too, and so in what is saved. */
     private static void refusedOnesAreSaved() {
-        Run run = Run.loaded("Ftw00000000").due("copy(0, 0)", 3).does("save(0)").due("copy(0, 0)", 3).due("about(8)", 2);
+        Run run = Run.loaded("Ftw00000000").due("copy(0, 0)", 3).does("save(0)").due("copy(0, 0)", 3)
+                .due("about(8)", 2);
         run.due("restore(0)", 0).due("about(8)", 1).due("copy(0, 0)", 3).due("about(8)", 2).due("undo()", 0);
         run.due("about(8)", 1);
     }

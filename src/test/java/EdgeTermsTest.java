@@ -115,7 +115,8 @@ final class EdgeTermsTest {
 
     /** "ink of 0 to 99": 99 on each new sheet, and 0 at the end */
     private static void inkOfNinetyNine() {
-        Run run = Run.loaded("Ftu0w00000009").due("sheetOf(0, 1)", 99).does("copy(0, 9)", "copy(1, 9)", "proof(2, 0, 1, 9)");
+        Run run = Run.loaded("Ftu0w00000009").due("sheetOf(0, 1)", 99)
+                .does("copy(0, 9)", "copy(1, 9)", "proof(2, 0, 1, 9)");
         run.due("sheetOf(1, 1)", 99).due("sheetOf(3, 1)", 99).does("hours(10)");
         run.due("sheetOf(0, 1)", 9).due("sheetOf(3, 1)", 9).does("copy(3, 9)").due("sheetOf(4, 1)", 99);
         run.does("hours(1)").due("sheetOf(0, 1)", 0).due("sheetOf(3, 1)", 0).due("sheetOf(4, 1)", 90);
@@ -223,7 +224,7 @@ final class EdgeTermsTest {
         eight.does("hours(2)").due("sheetOf(0, 7)", 989888);
     }
 
-    /** "The errors of a sheet are the places at which what is read is not the digit of its message; 6 if it cannot..." */
+    /** "The errors of a sheet are the places at which what is read is not the digit of its message; 6 if..." */
     private static void errorsOfASheet() {
         // blurred once or more at each place, and read well
         Run run = Run.loaded("Ftu0w00000007h13c009h09c018h10c028h08c030");
@@ -302,7 +303,7 @@ final class EdgeTermsTest {
         }
     }
 
-    /** "if none of these is so, the first of which is the reason": each alone, of each sheet, and with each later one */
+    /** "if none of these is so, the first of which is the reason": each alone, and with each later one */
     private static void reasonsOfProofs() {
         String[] each = {"0, 1, 2", "1, 0, 2", "1, 2, 0"};
         String base = "Fttr0120u0u0w00000000c000c000";

@@ -53,7 +53,8 @@ final class EdgeTextTest {
 
     /** "If several exceptions apply to a call, the one that its description names first is thrown." */
     private static void rangeAheadOfFull() {
-        new Run().text(LONGEST).outOfRange("append(-1)", "append(256)").notNow("append(116)").due("errorPosition()", -1);
+        new Run().text(LONGEST).outOfRange("append(-1)", "append(256)").notNow("append(116)")
+                .due("errorPosition()", -1);
     }
 
     /** "Returns the previous length of the text." */
@@ -208,6 +209,11 @@ final class EdgeTextTest {
         Check.same("loaded over a full country", loaded, over.looks());
         Run again = Run.loaded(text).does("hours(60)", "town()", "copy(0, 0)").due("load()", 0);
         Check.same("loaded again", loaded, again.looks());
+        String[] onRoads = {"town()", "town()", "road(0, 1, 20)", "runner(0)", "write(0, 5, 5)", "take(0, 0)",
+            "go(0, 0)"};
+        Run away = Run.of(onRoads).does("hours(3)").text("Fttr1002u1w16543211").due("load()", 0);
+        Check.same("loaded with all on roads", Run.loaded("Fttr1002u1w16543211").looks(), away.looks());
+        away.due("runnerOf(0, 1)", 0).due("runnerOf(0, 3)", 0).due("sheetOf(0, 3)", -1).due("about(9)", 1);
         again.due("about(5)", 5).due("about(8)", 0).due("sheetOf(1, 1)", 99).due("runnerOf(0, 3)", 4);
     }
 
@@ -283,6 +289,7 @@ final class EdgeTextTest {
         leftOut(1, "Ftu0w00000000k000l01").due("sheetOf(0, 3)", 0);
         leftOut(1, "Ftw00000000l00").due("sheetOf(0, 3)", -1);
         leftOut(1, "Fttr0120u0w00000000k000g00h19l00").due("sheetOf(0, 3)", 0);
+        leftOut(0, "Ftu0w00000000k000l00").due("sheetOf(0, 3)", -1).due("sheetOf(0, 4)", 0);
         leftOut(0, "Fttr0120u0w00000000k000g00h20l00").due("sheetOf(0, 3)", -1).due("sheetOf(0, 4)", 1);
     }
 

@@ -156,7 +156,8 @@ final class EdgeUndoTest {
     /** "At most 14 states are remembered": each of them as it was, behind actions that build one on the other */
     private static void allFourteenStatesComeBack() {
         String[] actions = {"town()", "town()", "road(0, 1, 2)", "runner(0)", "write(0, 123456, 9)", "copy(0, 9)",
-            "copy(1, 8)", "take(0, 1)", "hours(7)", "proof(0, 1, 2, 1)", "go(0, 0)", "copy(1, 1)", "hours(1)", "hours(1)",
+            "copy(1, 8)", "take(0, 1)", "hours(7)", "proof(0, 1, 2, 1)", "go(0, 0)", "copy(1, 1)", "hours(1)",
+                    "hours(1)",
             "lay(1)"};
         for (int back = 1; back <= 14; back++) {
             Run run = Run.of(actions);
