@@ -33,6 +33,7 @@ final class EdgeActionTest {
         copyRefused();
         proofOfNoSuch();
         proofOutOfRange();
+        proofOfUnlikeMessages();
         proofRefused();
         hoursOutOfRange();
         hoursLeastAndMost();
@@ -248,6 +249,18 @@ final class EdgeActionTest {
         run.due("sheetOf(4, 2)", 9).due("proof(0, 1, 2, 0)", 0).due("sheetOf(5, 2)", 0);
         Run away = Run.loaded("Ftw00000000w00000000u0c000c000h60").does("town()", "road(0, 1, 5)", "go(0, 0)");
         away.outOfRange("proof(0, 2, 1, 0)", "proof(0, 2, 2, 0)", "proof(0, 2, 3, 10)").due("proof(0, 2, 3, 0)", 3);
+    }
+
+    /** Promise 19: "they are not all of one message": whichever of them is of a lower or of a higher one */
+    private static void proofOfUnlikeMessages() {
+        Run run = Run.loaded("Ftu0w00000000c000c000w00000000c030c030").due("sheetOf(5, 0)", 1);
+        for (int set = 1; set <= 6; set++) {
+            int a = (set & 1) == 0 ? 0 : 3;
+            int b = (set & 2) == 0 ? 1 : 4;
+            int c = (set & 4) == 0 ? 2 : 5;
+            run.outOfRange("proof(" + a + ", " + b + ", " + c + ", 0)");
+        }
+        run.due("proof(0, 1, 2, 0)", 0).due("proof(3, 4, 5, 0)", 0).due("sheetOf(6, 0)", 0).due("sheetOf(7, 0)", 1);
     }
 
     /** Promise 19: "Returns 0 if it is made, otherwise the reason why it cannot be." */

@@ -137,6 +137,9 @@ final class EdgeForecastTest {
         Run back = Run.loaded(text + "h07c081").due("sheetOf(9, 6)", 900000).due("sheetOf(9, 5)", 1);
         back.due("errorsIn(9, 60)", 2).due("errorsIn(9, 63)", 0).due("rightFor(9)", 60).does("hours(60)", "hours(3)");
         back.due("sheetOf(9, 1)", 36).due("sheetOf(9, 5)", 0).due("rightFor(9)", 1);
+        // fewer errors come first, with the ink 36, and more an hour later
+        Run fewer = Run.loaded(text + "h07c089").due("sheetOf(9, 5)", 1).due("errorsIn(9, 6)", 1);
+        fewer.due("errorsIn(9, 7)", 0).due("errorsIn(9, 8)", 2).due("rightFor(9)", 8);
     }
 
     /** Promise 25: "IndexOutOfBoundsException if there is no such town", where way is wrong too */

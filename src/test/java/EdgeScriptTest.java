@@ -245,6 +245,9 @@ final class EdgeScriptTest {
         Run full = Run.full();
         succeeds(full, 80000, 84400);
         fails(full, 84500, 85500, 84600);
+        Run more = Run.loaded("Ftu0u0u0u0u0");
+        succeeds(more, 80000, 81000, 84000);
+        fails(more, 80100, 84100, 85000);
     }
 
     /** "9 a b n n: succeeds if route(a, b, 0) is at most nn and not NONE." */
